@@ -264,6 +264,7 @@ public final class MondayFactory {
     }
 
     public int run() throws IllegalArgumentException, UnsupportedOperationException {
+        // The input is empty whatever comes of it; its signs can still be read up to this length.
         int length = input.length;
         input.length = 0;
         latestError = input.findError(length);
@@ -373,32 +374,26 @@ public final class MondayFactory {
         for (int at = 0; at < length; at++) {
             char order = input.signAt(at);
             if (Input.numbersOf(order) != Input.WRONG) {
-                int verdict = carryOutOrder(order, at);
+                int number = input.numberAt(at + 1);
+                int grey = input.numberAt(at + 2);
+                int alarm = input.numberAt(at + 3);
+                int verdict = plant.verdictOn(order, number, grey, alarm);
                 if (verdict != FINE) {
+                    keepReason(verdict, order, number);
                     return verdict;
                 }
+                plant.carryOut(order, number, grey, alarm);
             }
         }
         return FINE;
     }
 
-    private int carryOutOrder(char order, int at) {
-        int number = input.numberAt(at + 1);
-        int grey = input.numberAt(at + 2);
-        int alarm = input.numberAt(at + 3);
-        int verdict = plant.verdictOn(order, number, grey, alarm);
-        if (verdict == FINE) {
-            plant.carryOut(order, number, grey, alarm);
-        } else if (verdict != NO_SUCH && verdict != OUT_OF_RANGE) {
-            // The detail must be read here: the caller takes the earlier orders of the text back.
-            keepReason(verdict, order, number);
+    /** Must be called on the plant as it is at the refusal: details tell of it. */
+    private void keepReason(int verdict, char order, int number) {
+        if (verdict >= FULL && verdict <= TOO_DEAR) {
+            latestReason = verdict;
+            latestDetail = plant.detailOf(verdict, order, number);
         }
-        return verdict;
-    }
-
-    private void keepReason(int reason, char order, int number) {
-        latestReason = reason;
-        latestDetail = plant.detailOf(reason, order, number);
     }
 
     private int failInThought(int belt, int place) {
@@ -412,11 +407,12 @@ public final class MondayFactory {
         if (asked.row.isBlank(place)) {
             return 0;
         }
+        int grey = asked.row.grey(place);
+        int alarm = asked.row.alarm(place);
         int yawned = plant.crew.yawned(plant.crew.freshAt(0));
         int failed = 0;
         for (int test = TESTS; test >= 1; test--) {
-            boolean isPassed = asked.isPassedBy(asked.row.grey(place), asked.row.alarm(place), test);
-            if (!isPassed && !Crew.isLeftOut(test, yawned)) {
+            if (!asked.isPassedBy(grey, alarm, test) && !Crew.isLeftOut(test, yawned)) {
                 failed = test;
             }
         }
@@ -505,7 +501,7 @@ public final class MondayFactory {
         }
 
         int number(int place, int what) {
-            boolean isThere = has(place) && what >= 0 && what < WIDTH;
+            boolean isThere = place >= 0 && place < count && what >= 0 && what < WIDTH;
             return isThere ? numbers[place * WIDTH + what] : NONE;
         }
 
@@ -518,7 +514,7 @@ public final class MondayFactory {
         }
 
         boolean isBlank(int place) {
-            return grey(place) == NONE;
+            return number(place, GREY) == NONE;
         }
 
         void add(int grey, int alarm, int repairs, int test) {
@@ -649,8 +645,8 @@ public final class MondayFactory {
             int ahead = 0;
             for (int other = 0; other < count; other++) {
                 boolean isFresher = yawns[other] < yawns[inspector];
-                boolean isAsFresh = yawns[other] == yawns[inspector];
-                ahead += isFresher || isAsFresh && other < inspector ? 1 : 0;
+                boolean isLower = yawns[other] == yawns[inspector] && other < inspector;
+                ahead += isFresher || isLower ? 1 : 0;
             }
             return ahead;
         }
@@ -741,7 +737,7 @@ public final class MondayFactory {
 
         int detailOf(int reason, char order, int number) {
             switch (reason) {
-                case FULL: return order == HIRE ? crew.count : MOST_CARRIERS;
+                case FULL: return order == HIRE ? MOST_INSPECTORS : MOST_CARRIERS;
                 case SO_ALREADY: return belts[number].least;
                 case EMPTY: return number;
                 case UNMANNED: return week;
@@ -797,7 +793,7 @@ public final class MondayFactory {
 
         private int inspectMonday(Belt belt, int inspector) {
             int grey = belt.row.grey(0);
-            int test = firstFailed(belt, crew.yawned(inspector));
+            int test = firstFailed(belt, grey, belt.row.alarm(0), crew.yawned(inspector));
             crew.addYawns(inspector, grey >= 8 ? 2 : 1);
             belt.last = grey;
             belt.inspected++;
@@ -809,10 +805,9 @@ public final class MondayFactory {
             return test;
         }
 
-        private static int firstFailed(Belt belt, int yawned) {
+        private static int firstFailed(Belt belt, int grey, int alarm, int yawned) {
             for (int test = 1; test <= TESTS; test++) {
-                boolean isPassed = belt.isPassedBy(belt.row.grey(0), belt.row.alarm(0), test);
-                if (!isPassed && !Crew.isLeftOut(test, yawned)) {
+                if (!belt.isPassedBy(grey, alarm, test) && !Crew.isLeftOut(test, yawned)) {
                     return test;
                 }
             }
@@ -822,7 +817,7 @@ public final class MondayFactory {
         private void reject(Row row, int test) {
             rejected++;
             if (shelf.count < MOST_REJECTS) {
-                shelf.add(row.grey(0), row.alarm(0), row.number(0, REPAIRS), test);
+                shelf.add(row.number(0, GREY), row.number(0, ALARM), row.number(0, REPAIRS), test);
             } else {
                 scrap++;
             }
@@ -861,7 +856,7 @@ public final class MondayFactory {
 
         int priceInNewWeek(int reject) {
             int forAlarm = shelf.number(reject, TEST) == ALARM_TEST ? 4 : 0;
-            return 3 + MOST_GREY - shelf.grey(reject) + forAlarm;
+            return 3 + MOST_GREY - shelf.number(reject, GREY) + forAlarm;
         }
 
         int priceOf(int reject) {

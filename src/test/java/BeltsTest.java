@@ -379,6 +379,16 @@ public final class BeltsTest {
         due("10: nothing is left", 0, x.account(0));
         fullBelts();
         weeksAndYawns();
+        repairsAndWeeks();
+    }
+
+    private static void repairsAndWeeks() {
+        MondayFactory x = new MondayFactory();
+        Check.run(x, "h;m014;i0;r0;m057;w");
+        due("10: repairs stay", 1, x.carrier(1, 0, 3));
+        due("10: those behind have theirs", 0, x.carrier(0, 0, 3));
+        Check.run(x, "m157;w");
+        due("10: repairs stay again", 1, x.carrier(2, 0, 3));
     }
 
     private static void fullBelts() {

@@ -157,5 +157,7 @@ public final class InspectionTest {
         x.make(0, 0, 9);
         due("18: 0", 0, x.leastGrey(0));
         due("18: another belt", 9, x.leastGrey(1));
+        Check.run(x, "m234;m254;m244");
+        due("18: the front one", 3, x.leastGrey(2));
     }
 }

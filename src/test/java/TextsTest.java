@@ -72,6 +72,11 @@ public final class TextsTest {
         due("25: the greys together", "120", greyestOnes(x));
         Check.run(x, "m045;m115;m095");
         due("25: all greys of a belt", "012", greyestOnes(x));
+        MondayFactory y = new MondayFactory();
+        Check.run(y, "m054;m164;m264;m204");
+        due("25: 1 more alone, ahead of carriers", "210", greyestOnes(y));
+        Check.run(y, "b0;b0;b0;b0");
+        due("25: 1 less, with most carriers", "210", greyestOnes(y));
     }
 
     private static void promise26() {
