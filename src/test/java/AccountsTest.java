@@ -1,3 +1,6 @@
+import java.util.List;
+import java.util.function.Function;
+
 /** Promises 33 to 39: accounts, shares, undo and the snapshot. */
 public final class AccountsTest {
     private static final Check CHECK = new Check("AccountsTest");
@@ -144,13 +147,14 @@ public final class AccountsTest {
     }
 
     private static void undoOfEachCall() {
-        MondayFactory x = new MondayFactory();
-        Check.run(x, "h;m014;i0;m057;m188;b1;m267");
-        Check.Call[] calls = {() -> x.make(0, 6, 6), () -> x.blank(1), () -> x.tell(2, 1, 9), () -> x.inspect(0),
-            x::hire, () -> x.leave(0), () -> x.sell(0), () -> x.repair(0), x::week, () -> Check.run(x, "w")};
-        for (int i = 0; i < calls.length; i++) {
+        List<Function<MondayFactory, Object>> calls = List.of(x -> x.make(0, 6, 6), x -> x.blank(1),
+            x -> x.tell(2, 1, 9), x -> x.inspect(0), MondayFactory::hire, x -> x.leave(0), x -> x.sell(0),
+            x -> x.repair(0), MondayFactory::week, x -> Check.run(x, "w"));
+        for (int i = 0; i < calls.size(); i++) {
+            MondayFactory x = new MondayFactory();
+            Check.run(x, "h;m014;i0;m057;m188;b1;m267");
             String before = Check.state(x);
-            calls[i].answer();
+            calls.get(i).apply(x);
             due("37: call " + i + " is a change", 2, x.account(14));
             due("37: call " + i + " changes", false, before.equals(Check.state(x)));
             due("37: call " + i + " undone", 1, x.undo());

@@ -1,7 +1,6 @@
 /** Promises 1 to 13: a new object, belts and inspectors. */
 public final class BeltsTest {
     private static final Check CHECK = new Check("BeltsTest");
-    private static final int[] NO_BELTS = {-1, 3, Integer.MIN_VALUE, Integer.MAX_VALUE};
 
     public static void main(String[] args) {
         promise1();
@@ -42,7 +41,7 @@ public final class BeltsTest {
 
     private static void promise2() {
         MondayFactory x = new MondayFactory();
-        for (int belt : NO_BELTS) {
+        for (int belt : Check.NO_BELTS) {
             CHECK.dueThrow("2: no belt", IndexOutOfBoundsException.class, () -> x.make(belt, 10, 3));
         }
         int[][] wrong = {{-1, 5}, {10, 5}, {5, 3}, {5, 10}, {Integer.MIN_VALUE, 5}, {5, Integer.MAX_VALUE}};
@@ -68,7 +67,7 @@ public final class BeltsTest {
 
     private static void promise3() {
         MondayFactory x = new MondayFactory();
-        for (int belt : NO_BELTS) {
+        for (int belt : Check.NO_BELTS) {
             CHECK.dueThrow("3: no belt", IndexOutOfBoundsException.class, () -> x.blank(belt));
         }
         x.make(1, 6, 6);
@@ -84,7 +83,7 @@ public final class BeltsTest {
 
     private static void promise4() {
         MondayFactory x = new MondayFactory();
-        for (int belt : NO_BELTS) {
+        for (int belt : Check.NO_BELTS) {
             CHECK.dueThrow("4: no belt", IndexOutOfBoundsException.class, () -> x.tell(belt, 10, 3));
         }
         int[][] wrong = {{-1, 5}, {10, 5}, {5, 3}, {5, 10}};
@@ -103,7 +102,7 @@ public final class BeltsTest {
 
     private static void promise5() {
         MondayFactory x = new MondayFactory();
-        for (int belt : NO_BELTS) {
+        for (int belt : Check.NO_BELTS) {
             CHECK.dueThrow("5: no belt", IndexOutOfBoundsException.class, () -> x.inspect(belt));
         }
         CHECK.refused("5: empty ahead of no inspector", 3, 2, x, () -> x.inspect(2));
@@ -158,34 +157,24 @@ public final class BeltsTest {
         due("5: 9 at most", 9, x.yawns(0));
     }
 
-    /** Makes a factory whose only inspector has yawned so often; the last grey of the belt 0 stays none. */
-    static MondayFactory yawner(int yawns) {
-        MondayFactory x = new MondayFactory();
-        x.hire();
-        for (int i = 0; i < yawns; i++) {
-            Check.run(x, i % 2 == 0 ? "m167;i1" : "m157;i1");
-        }
-        return x;
-    }
-
     private static void leavingTestsOut() {
         int[] lastGreyTest = {3, 3, 3, 3, 3, 0, 0, 0, 0};
         int[] alarmTest = {2, 2, 2, 2, 2, 2, 2, 2, 0};
         for (int yawns = 0; yawns <= 8; yawns++) {
-            MondayFactory x = yawner(yawns);
+            MondayFactory x = Check.yawner(yawns);
             Check.run(x, "m057;i0;m057");
             due("5: yawned " + x.yawns(0) + ", the last grey", lastGreyTest[yawns], x.inspect(0));
-            MondayFactory y = yawner(yawns + 1);
+            MondayFactory y = Check.yawner(yawns + 1);
             y.make(0, 5, 8);
             due("5: yawned " + y.yawns(0) + ", the alarm", alarmTest[yawns], y.inspect(0));
-            MondayFactory z = yawner(yawns + 1);
+            MondayFactory z = Check.yawner(yawns + 1);
             z.make(0, 4, 8);
             due("5: yawned " + z.yawns(0) + ", the grey", 1, z.inspect(0));
         }
-        MondayFactory x = yawner(5);
+        MondayFactory x = Check.yawner(5);
         Check.run(x, "m087;i0;m087");
         due("5: by the yawns ahead of the inspection", 0, x.inspect(0));
-        MondayFactory y = yawner(8);
+        MondayFactory y = Check.yawner(8);
         y.make(0, 9, 9);
         due("5: not by those behind it", 2, y.inspect(0));
     }
@@ -196,23 +185,15 @@ public final class BeltsTest {
         x.hire();
         x.hire();
         Check.run(x, "m067;i0");
-        due("5: the lowest of several", "1 0 0", yawnsOf(x));
+        due("5: the lowest of several", "1 0 0", Check.yawnsOf(x));
         Check.run(x, "m087;i0");
-        due("5: the one who yawned the least", "1 2 0", yawnsOf(x));
+        due("5: the one who yawned the least", "1 2 0", Check.yawnsOf(x));
         Check.run(x, "m067;i0");
-        due("5: the last of them", "1 2 1", yawnsOf(x));
+        due("5: the last of them", "1 2 1", Check.yawnsOf(x));
         Check.run(x, "m057;i0");
-        due("5: the lowest again", "2 2 1", yawnsOf(x));
+        due("5: the lowest again", "2 2 1", Check.yawnsOf(x));
         Check.run(x, "b0;i0");
-        due("5: a blank's inspector", "2 2 0", yawnsOf(x));
-    }
-
-    private static String yawnsOf(MondayFactory x) {
-        StringBuilder all = new StringBuilder();
-        for (int inspector = 0; inspector < x.account(3); inspector++) {
-            all.append(inspector == 0 ? "" : " ").append(x.yawns(inspector));
-        }
-        return all.toString();
+        due("5: a blank's inspector", "2 2 0", Check.yawnsOf(x));
     }
 
     private static void fullShelf() {
@@ -245,7 +226,7 @@ public final class BeltsTest {
         x.inspect(0);
         x.leave(0);
         due("6: in place of one who left", 3, x.hire());
-        due("6: a new one has not yawned", "0 0 0 0", yawnsOf(x));
+        due("6: a new one has not yawned", "0 0 0 0", Check.yawnsOf(x));
         MondayFactory y = new MondayFactory();
         y.hire();
         Check.run(y, "m087;i0");
@@ -258,16 +239,16 @@ public final class BeltsTest {
         MondayFactory x = new MondayFactory();
         CHECK.dueThrow("7: none", IndexOutOfBoundsException.class, () -> x.leave(0));
         Check.run(x, "h;h;h;h;m067;i0;m087;i0;m167;i1");
-        due("7: yawns", "1 2 1 0", yawnsOf(x));
+        due("7: yawns", "1 2 1 0", Check.yawnsOf(x));
         for (int inspector : new int[] {-1, 4, Integer.MIN_VALUE, Integer.MAX_VALUE}) {
             CHECK.dueThrow("7: no such", IndexOutOfBoundsException.class, () -> x.leave(inspector));
         }
         due("7: has yawned", 2, x.leave(1));
-        due("7: later ones are 1 less", "1 1 0", yawnsOf(x));
+        due("7: later ones are 1 less", "1 1 0", Check.yawnsOf(x));
         due("7: the last", 0, x.leave(2));
         CHECK.dueThrow("7: gone", IndexOutOfBoundsException.class, () -> x.leave(2));
         due("7: the first", 1, x.leave(0));
-        due("7: one is left", "1", yawnsOf(x));
+        due("7: one is left", "1", Check.yawnsOf(x));
         due("7: changes", 4, x.account(14));
     }
 
@@ -409,21 +390,21 @@ public final class BeltsTest {
     private static void weeksAndYawns() {
         MondayFactory x = new MondayFactory();
         Check.run(x, "h;h;h;m097;i0;m087;i0;m097;i0;m187;i1;m017;i0");
-        due("10: yawns", "4 3 2", yawnsOf(x));
+        due("10: yawns", "4 3 2", Check.yawnsOf(x));
         x.sell(0);
         x.week();
-        due("10: 2 less", "2 1 0", yawnsOf(x));
+        due("10: 2 less", "2 1 0", Check.yawnsOf(x));
         due("10: no Fridays of the week", 0, x.account(11));
         due("10: Fridays stay", 1, x.account(10));
         due("10: the last grey stays", 1, x.beltOf(0, 4));
         x.week();
-        due("10: not below 0", "0 0 0", yawnsOf(x));
+        due("10: not below 0", "0 0 0", Check.yawnsOf(x));
         due("10: changes", 4, x.account(14));
     }
 
     private static void promise11() {
         MondayFactory x = new MondayFactory();
-        for (int belt : NO_BELTS) {
+        for (int belt : Check.NO_BELTS) {
             CHECK.dueThrow("11: no belt", IndexOutOfBoundsException.class, () -> x.beltOf(belt, 7));
         }
         for (int what : new int[] {-1, 7, Integer.MIN_VALUE, Integer.MAX_VALUE}) {
@@ -444,7 +425,7 @@ public final class BeltsTest {
         CHECK.dueThrow("12: no place", IndexOutOfBoundsException.class, () -> x.carrier(0, 0, 9));
         x.make(1, 6, 8);
         x.blank(1);
-        for (int belt : NO_BELTS) {
+        for (int belt : Check.NO_BELTS) {
             CHECK.dueThrow("12: no belt", IndexOutOfBoundsException.class, () -> x.carrier(belt, 0, 9));
         }
         for (int place : new int[] {-1, 2, 5, Integer.MIN_VALUE, Integer.MAX_VALUE}) {

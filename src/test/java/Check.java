@@ -1,22 +1,44 @@
 /** Counts and prints the answers that are not due; a test ends with exit code 1 if there was one. */
 final class Check {
+    static final int[] NO_BELTS = {-1, 3, Integer.MIN_VALUE, Integer.MAX_VALUE};
+
+    /** Numbers that are wrong wherever numbers count from 0. */
+    static final int[] FAR = {-1, Integer.MIN_VALUE, Integer.MAX_VALUE};
+
     interface Call {
         Object answer();
     }
 
     private final String test;
+    private String sentence = "";
     private int checks = 0;
+    private int checksOfSentence = 1;
     private int wrong = 0;
 
     Check(String test) {
         this.test = test;
     }
 
+    /** Begins the test of a sentence of the document, whose words are given; it ends where the next one begins. */
+    void sentence(String words) {
+        endSentence();
+        sentence = words + ": ";
+        checksOfSentence = 0;
+    }
+
+    private void endSentence() {
+        if (checksOfSentence == 0) {
+            wrong++;
+            System.out.println(test + ": " + sentence + "nothing was checked");
+        }
+    }
+
     void due(String what, Object want, Object got) {
         checks++;
+        checksOfSentence++;
         if (!want.equals(got)) {
             wrong++;
-            System.out.println(test + ": " + what + ": due is " + want + ", answered was " + got);
+            System.out.println(test + ": " + sentence + what + ": due is " + want + ", answered was " + got);
         }
     }
 
@@ -61,6 +83,70 @@ final class Check {
         return x.run();
     }
 
+    /** Makes a factory and carries out orders on it, each by the call of its own. */
+    static MondayFactory factory(String orders) {
+        MondayFactory x = new MondayFactory();
+        call(x, orders);
+        return x;
+    }
+
+    /** Carries out orders, with a blank between two, each by the call of its own: a text would cost more calls. */
+    static int call(MondayFactory x, String orders) {
+        int answer = 0;
+        for (String order : orders.split(" ")) {
+            answer = callOrder(x, order);
+        }
+        return answer;
+    }
+
+    private static int callOrder(MondayFactory x, String order) {
+        String padded = order + "000";
+        int a = padded.charAt(1) - '0';
+        int b = padded.charAt(2) - '0';
+        int c = padded.charAt(3) - '0';
+        return switch (order.charAt(0)) {
+            case 'm' -> x.make(a, b, c);
+            case 'b' -> x.blank(a);
+            case 't' -> x.tell(a, b, c);
+            case 'i' -> x.inspect(a);
+            case 'h' -> x.hire();
+            case 'o' -> x.leave(a);
+            case 's' -> x.sell(a);
+            case 'r' -> x.repair(a);
+            case 'w' -> x.week();
+            default -> throw new AssertionError(order);
+        };
+    }
+
+    /** Makes a factory whose only inspector has yawned so often; the last grey of the belt 0 stays none. */
+    static MondayFactory yawner(int yawns) {
+        MondayFactory x = factory("h");
+        letYawn(x, yawns);
+        return x;
+    }
+
+    /** Lets the only inspector yawn so often more, by Mondays of the belt 1 that pass. */
+    static void letYawn(MondayFactory x, int times) {
+        for (int i = 0; i < times; i++) {
+            call(x, i % 2 == 0 ? "m167 i1" : "m157 i1");
+        }
+    }
+
+    /** Puts so many more rejects of the test 1 on the shelf, by the belt 0 and an inspector who is there. */
+    static void addRejects(MondayFactory x, int howMany) {
+        for (int i = 0; i < howMany; i++) {
+            call(x, i % 2 == 0 ? "m014 i0" : "m024 i0");
+        }
+    }
+
+    static String yawnsOf(MondayFactory x) {
+        StringBuilder all = new StringBuilder();
+        for (int inspector = 0; inspector < x.account(3); inspector++) {
+            all.append(inspector == 0 ? "" : " ").append(x.yawns(inspector));
+        }
+        return all.toString();
+    }
+
     /** All that changes can change, read through the face, so that two states can be compared. */
     static String state(MondayFactory x) {
         StringBuilder all = new StringBuilder();
@@ -90,7 +176,22 @@ final class Check {
         return all.toString();
     }
 
+    /** What changes cannot change, but for the signs of the input. */
+    static String apart(MondayFactory x) {
+        StringBuilder all = new StringBuilder();
+        all.append(x.account(13)).append(' ').append(x.errorPosition()).append(' ');
+        all.append(outcome(() -> x.refusal(false))).append(' ').append(outcome(() -> x.refusal(true))).append(' ');
+        String sign = outcome(() -> x.character(0));
+        for (int index = 1; sign.length() == 1; index++) {
+            int at = index;
+            all.append(sign);
+            sign = outcome(() -> x.character(at));
+        }
+        return all.toString();
+    }
+
     void end() {
+        endSentence();
         System.out.println(test + ": " + checks + " checks, " + wrong + " wrong");
         if (wrong != 0 || checks == 0) {
             System.exit(1);

@@ -3,7 +3,6 @@ import java.util.NoSuchElementException;
 /** Promises 19 to 23: prices of rejects, and whether a repair would do. */
 public final class FridaysTest {
     private static final Check CHECK = new Check("FridaysTest");
-    private static final int[] FAR = {-1, Integer.MIN_VALUE, Integer.MAX_VALUE};
 
     public static void main(String[] args) {
         promise19();
@@ -42,7 +41,7 @@ public final class FridaysTest {
         CHECK.dueThrow("19: none", IndexOutOfBoundsException.class, () -> x.rejectOf(0, 6));
         Check.run(x, "h;m038;i0;m069;i0;m067;i0;r0;i0");
         CHECK.dueThrow("19: no such", IndexOutOfBoundsException.class, () -> x.rejectOf(3, 6));
-        for (int reject : FAR) {
+        for (int reject : Check.FAR) {
             CHECK.dueThrow("19: no such", IndexOutOfBoundsException.class, () -> x.rejectOf(reject, 0));
         }
         for (int what : new int[] {-1, 6, Integer.MIN_VALUE, Integer.MAX_VALUE}) {
@@ -148,7 +147,7 @@ public final class FridaysTest {
         CHECK.dueThrow("23: none", IndexOutOfBoundsException.class, () -> x.wouldMend(0));
         Check.run(x, "h;m227;i2;m237;i2;m258;i2;m259;i2");
         CHECK.dueThrow("23: no such", IndexOutOfBoundsException.class, () -> x.wouldMend(4));
-        for (int reject : FAR) {
+        for (int reject : Check.FAR) {
             CHECK.dueThrow("23: no such", IndexOutOfBoundsException.class, () -> x.wouldMend(reject));
         }
         due("23: a grey of 4", false, x.wouldMend(0));
@@ -186,7 +185,7 @@ public final class FridaysTest {
         due("23: no coins", 0, z.account(4));
         Check.run(z, "m235;i2");
         due("23: without coins", true, z.wouldMend(z.account(2) - 1));
-        MondayFactory w = BeltsTest.yawner(9);
+        MondayFactory w = Check.yawner(9);
         Check.run(w, "m057;i0;m137;i1");
         due("23: left out by nobody", false, w.wouldMend(0));
     }

@@ -1,7 +1,6 @@
 /** Promises 14 to 18: what the tests would tell. */
 public final class InspectionTest {
     private static final Check CHECK = new Check("InspectionTest");
-    private static final int[] NO_BELTS = {-1, 3, Integer.MIN_VALUE, Integer.MAX_VALUE};
     private static final int[] NO_PLACES = {-1, 4, 5, Integer.MIN_VALUE, Integer.MAX_VALUE};
 
     public static void main(String[] args) {
@@ -27,7 +26,7 @@ public final class InspectionTest {
         MondayFactory x = new MondayFactory();
         CHECK.dueThrow("14: no place", IndexOutOfBoundsException.class, () -> x.passes(0, 0, 0));
         Check.run(x, "h;m157;i1;m157;m148;m169;b1");
-        for (int belt : NO_BELTS) {
+        for (int belt : Check.NO_BELTS) {
             CHECK.dueThrow("14: no belt", IndexOutOfBoundsException.class, () -> x.passes(belt, 0, 0));
         }
         for (int place : NO_PLACES) {
@@ -47,7 +46,7 @@ public final class InspectionTest {
         due("14: without inspectors", false, x.passes(1, 0, 3));
         x.make(0, 5, 7);
         due("14: without a last grey", true, x.passes(0, 0, 3));
-        MondayFactory y = BeltsTest.yawner(9);
+        MondayFactory y = Check.yawner(9);
         y.make(1, y.beltOf(1, 4), 9);
         due("14: a test left out", false, y.passes(1, 0, 2));
         due("14: another test left out", false, y.passes(1, 0, 3));
@@ -65,7 +64,7 @@ public final class InspectionTest {
         }
         x.hire();
         for (boolean isAgain : new boolean[] {false, true}) {
-            for (int belt : NO_BELTS) {
+            for (int belt : Check.NO_BELTS) {
                 CHECK.dueThrow("15: no belt", IndexOutOfBoundsException.class, () -> x.wouldFail(belt, 0, isAgain));
             }
             for (int place : NO_PLACES) {
@@ -88,7 +87,7 @@ public final class InspectionTest {
 
     private static void failsByYawns() {
         for (int yawns = 4; yawns <= 9; yawns++) {
-            MondayFactory x = BeltsTest.yawner(yawns);
+            MondayFactory x = Check.yawner(yawns);
             int last = x.beltOf(1, 4);
             x.make(1, last, 7);
             dueFail("15: yawned " + yawns + ", the last grey", yawns >= 6 ? 0 : 3, x, 1, 0);
@@ -104,7 +103,7 @@ public final class InspectionTest {
 
     private static void promise16() {
         MondayFactory x = new MondayFactory();
-        for (int belt : NO_BELTS) {
+        for (int belt : Check.NO_BELTS) {
             CHECK.dueThrow("16: no belt", IndexOutOfBoundsException.class, () -> x.wouldStamp(belt));
         }
         CHECK.dueThrow("16: nobody", java.util.NoSuchElementException.class, () -> x.wouldStamp(0));
@@ -119,12 +118,12 @@ public final class InspectionTest {
         due("16: nothing changes", before, Check.state(x));
         x.inspect(0);
         due("16: those stamped before do not count", 2, x.wouldStamp(0));
-        MondayFactory y = BeltsTest.yawner(4);
+        MondayFactory y = Check.yawner(4);
         Check.run(y, "m099;m087;m097;m097;m099");
         due("16: yawning on the way", 4, y.wouldStamp(0));
         y.hire();
         due("16: with two inspectors", 2, y.wouldStamp(0));
-        MondayFactory z = BeltsTest.yawner(6);
+        MondayFactory z = Check.yawner(6);
         Check.run(z, "m057;b0;b0;m057;m057");
         due("16: blanks on the way", 2, z.wouldStamp(0));
     }
@@ -146,7 +145,7 @@ public final class InspectionTest {
 
     private static void promise18() {
         MondayFactory x = new MondayFactory();
-        for (int belt : NO_BELTS) {
+        for (int belt : Check.NO_BELTS) {
             CHECK.dueThrow("18: no belt", IndexOutOfBoundsException.class, () -> x.leastGrey(belt));
         }
         due("18: empty", 9, x.leastGrey(0));

@@ -3,7 +3,6 @@ import java.util.NoSuchElementException;
 /** Promises 24 to 32: orders of inspectors and belts, lines, texts and reasons. */
 public final class TextsTest {
     private static final Check CHECK = new Check("TextsTest");
-    private static final int[] FAR = {-1, Integer.MIN_VALUE, Integer.MAX_VALUE};
 
     public static void main(String[] args) {
         promise24();
@@ -37,7 +36,7 @@ public final class TextsTest {
         MondayFactory x = new MondayFactory();
         CHECK.dueThrow("24: none", NoSuchElementException.class, () -> x.fresh(0));
         Check.run(x, "h;h;h;h");
-        for (int place : FAR) {
+        for (int place : Check.FAR) {
             CHECK.dueThrow("24: no place", NoSuchElementException.class, () -> x.fresh(place));
         }
         CHECK.dueThrow("24: no place", NoSuchElementException.class, () -> x.fresh(4));
@@ -55,7 +54,7 @@ public final class TextsTest {
 
     private static void promise25() {
         MondayFactory x = new MondayFactory();
-        for (int place : FAR) {
+        for (int place : Check.FAR) {
             CHECK.dueThrow("25: no place", NoSuchElementException.class, () -> x.greyest(place));
         }
         CHECK.dueThrow("25: no place", NoSuchElementException.class, () -> x.greyest(3));
@@ -81,7 +80,7 @@ public final class TextsTest {
 
     private static void promise26() {
         MondayFactory x = new MondayFactory();
-        for (int belt : new int[] {-1, 3, Integer.MIN_VALUE, Integer.MAX_VALUE}) {
+        for (int belt : Check.NO_BELTS) {
             CHECK.dueThrow("26: no belt", IndexOutOfBoundsException.class, () -> x.line(belt));
         }
         CHECK.line("26: empty", "5/7:", x, x.line(0));
@@ -111,7 +110,7 @@ public final class TextsTest {
         MondayFactory x = new MondayFactory();
         CHECK.dueThrow("28: empty at first", IndexOutOfBoundsException.class, () -> x.character(0));
         x.line(1);
-        for (int index : FAR) {
+        for (int index : Check.FAR) {
             CHECK.dueThrow("28: no index", IndexOutOfBoundsException.class, () -> x.character(index));
         }
         due("28: the first", '5', x.character(0));
@@ -152,15 +151,20 @@ public final class TextsTest {
         due("30: carried out", 1, x.account(7));
         CHECK.dueThrow("30: an empty text", IllegalArgumentException.class, x::run);
         due("30: its error", 0, x.errorPosition());
+        wrongNumbers();
+    }
+
+    private static void wrongNumbers() {
         for (String text : new String[] {"m357", "b3", "t357", "t053", "m053", "i3", "i9", "o2", "s0", "r0"}) {
+            MondayFactory x = Check.factory("h");
             String before = Check.state(x);
             CHECK.dueThrow("30: wrong " + text, IllegalArgumentException.class, () -> Check.run(x, "w;" + text));
             due("30: no error in " + text, -1, x.errorPosition());
             due("30: empty behind " + text, 0, x.account(13));
             due("30: nothing of " + text, before, Check.state(x));
-            due("30: no change by " + text, 2, x.account(14));
+            due("30: no change by " + text, 1, x.account(14));
+            CHECK.dueThrow("30: no reason kept by " + text, NoSuchElementException.class, () -> x.refusal(false));
         }
-        CHECK.dueThrow("30: no reason kept", NoSuchElementException.class, () -> x.refusal(false));
     }
 
     private static void eachOrder() {
@@ -233,13 +237,9 @@ public final class TextsTest {
             1, 1, 1, 1, 1, 15, 1, 1, 0, 1, 1, 1, 5};
         due("31: as many positions as texts", wrong.length, positions.length);
         for (int i = 0; i < wrong.length; i++) {
-            String text = wrong[i];
-            String before = Check.state(x);
-            CHECK.dueThrow("31: " + text, IllegalArgumentException.class, () -> Check.run(x, text));
-            due("31: position in " + text, positions[i], x.errorPosition());
-            due("31: empty behind " + text, 0, x.account(13));
-            due("31: nothing by " + text, before, Check.state(x));
+            dueError(wrong[i], positions[i]);
         }
+        CHECK.dueThrow("31: too early", IllegalArgumentException.class, () -> Check.run(x, "m057;"));
         Check.type(x, "h");
         due("31: of the latest run", 5, x.errorPosition());
         x.week();
@@ -254,6 +254,15 @@ public final class TextsTest {
             Check.run(x, text);
             due("31: none in " + text, -1, x.errorPosition());
         }
+    }
+
+    private static void dueError(String text, int position) {
+        MondayFactory x = new MondayFactory();
+        String before = Check.state(x);
+        CHECK.dueThrow("31: " + text, IllegalArgumentException.class, () -> Check.run(x, text));
+        due("31: position in " + text, position, x.errorPosition());
+        due("31: empty behind " + text, 0, x.account(13));
+        due("31: nothing by " + text, before, Check.state(x));
     }
 
     private static void promise32() {
