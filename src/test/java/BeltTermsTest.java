@@ -3,20 +3,7 @@ public final class BeltTermsTest {
     private static final Check CHECK = new Check("BeltTermsTest");
 
     public static void main(String[] args) {
-        belts();
-        noBelts();
-        atMostFiveCarriers();
-        fiveOfBothKinds();
-        places();
-        greys();
-        alarms();
-        repairsAtFirst();
-        beltAtFirst();
-        toldLimits();
-        tests();
-        leastGreyTest();
-        latestAlarmTest();
-        lastGreyTest();
+        CHECK.eachSentence(BeltTermsTest.class);
         CHECK.end();
     }
 

@@ -10,23 +10,7 @@ public final class ChangeTermsTest {
     private static final Class<IllegalArgumentException> WRONG = IllegalArgumentException.class;
 
     public static void main(String[] args) {
-        changes();
-        noChanges();
-        latestEight();
-        eachOfTheEight();
-        undoneInTurns();
-        restoreForgets();
-        firstException();
-        firstOfTwoNumbers();
-        staysByUndo();
-        staysByRestore();
-        yawnsAhead();
-        blanksAreNotInspected();
-        failedByItsAlarm();
-        lastGreysStay();
-        toldByNow();
-        nothingWithoutInspectors();
-        repairsWithoutCoinsAndRoom();
+        CHECK.eachSentence(ChangeTermsTest.class);
         CHECK.end();
     }
 

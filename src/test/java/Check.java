@@ -1,3 +1,8 @@
+import java.lang.reflect.InvocationTargetException;
+import java.lang.reflect.Method;
+import java.util.Arrays;
+import java.util.Comparator;
+
 /** Counts and prints the answers that are not due; a test ends with exit code 1 if there was one. */
 final class Check {
     static final int[] NO_BELTS = {-1, 3, Integer.MIN_VALUE, Integer.MAX_VALUE};
@@ -12,25 +17,56 @@ final class Check {
     private final String test;
     private String sentence = "";
     private int checks = 0;
-    private int checksOfSentence = 1;
+    private int checksOfSentence = 0;
     private int wrong = 0;
 
     Check(String test) {
         this.test = test;
     }
 
-    /** Begins the test of a sentence of the document, whose words are given; it ends where the next one begins. */
-    void sentence(String words) {
-        endSentence();
-        sentence = words + ": ";
-        checksOfSentence = 0;
+    /**
+     * Runs the tests of a class, which are its methods without parameters and results. Each is of one sentence; one
+     * that is broken off by an exception lets the others run.
+     */
+    void eachSentence(Class<?> tests) {
+        Method[] methods = tests.getDeclaredMethods();
+        Arrays.sort(methods, Comparator.comparing(Method::getName));
+        for (Method method : methods) {
+            if (method.getParameterCount() == 0 && method.getReturnType() == void.class) {
+                runSentence(method);
+            }
+        }
     }
 
-    private void endSentence() {
-        if (checksOfSentence == 0) {
-            wrong++;
-            System.out.println(test + ": " + sentence + "nothing was checked");
+    private void runSentence(Method method) {
+        checksOfSentence = 0;
+        sentence = "";
+        method.setAccessible(true);
+        try {
+            method.invoke(null);
+        } catch (InvocationTargetException e) {
+            Throwable cause = e.getCause();
+            due("broken off in the line " + lineOf(cause), "no exception", cause.getClass().getSimpleName());
+        } catch (IllegalAccessException e) {
+            due("run", "no exception", e.toString());
         }
+        due(method.getName() + " tells its sentence, and checks it", true, !sentence.isEmpty() && checksOfSentence > 0);
+    }
+
+    private String lineOf(Throwable e) {
+        for (StackTraceElement call : e.getStackTrace()) {
+            if (call.getClassName().equals(test)) {
+                return "" + call.getLineNumber();
+            }
+        }
+        return "unknown";
+    }
+
+    /** Tells the words of the document whose test begins. */
+    void sentence(String words) {
+        due("one sentence a test", "", sentence);
+        sentence = words + ": ";
+        checksOfSentence = 0;
     }
 
     void due(String what, Object want, Object got) {
@@ -60,8 +96,8 @@ final class Check {
     /** Checks that a call is refused for a reason with a detail. */
     void refused(String what, int reason, int detail, MondayFactory x, Call call) {
         dueThrow(what, UnsupportedOperationException.class, call);
-        due(what + ", reason", reason, x.refusal(false));
-        due(what + ", detail", detail, x.refusal(true));
+        due(what + ", reason", "" + reason, outcome(() -> x.refusal(false)));
+        due(what + ", detail", "" + detail, outcome(() -> x.refusal(true)));
     }
 
     static String outcome(Call call) {
@@ -191,7 +227,6 @@ final class Check {
     }
 
     void end() {
-        endSentence();
         System.out.println(test + ": " + checks + " checks, " + wrong + " wrong");
         if (wrong != 0 || checks == 0) {
             System.exit(1);

@@ -1,4 +1,5 @@
 import java.util.NoSuchElementException;
+import java.util.function.BiFunction;
 
 /** The sentences of the promises 1 to 23 that name boundary cases, each with a test of its own. */
 public final class EarlierPromisesTest {
@@ -8,28 +9,7 @@ public final class EarlierPromisesTest {
     private static final Class<NoSuchElementException> NONE = NoSuchElementException.class;
 
     public static void main(String[] args) {
-        newObject();
-        makeAndBlank();
-        tell();
-        inspect();
-        hireAndLeave();
-        sell();
-        repair();
-        week();
-        beltOf();
-        carrier();
-        yawns();
-        passes();
-        wouldFail();
-        wouldStamp();
-        stampsOnTheWay();
-        next();
-        leastGrey();
-        rejectOf();
-        best();
-        allPrices();
-        bestOrder();
-        wouldMend();
+        CHECK.eachSentence(EarlierPromisesTest.class);
         CHECK.end();
     }
 
@@ -55,7 +35,157 @@ public final class EarlierPromisesTest {
         due("nor it of another one", 1, y.account(0));
     }
 
-    private static void makeAndBlank() {
+    private static void dueNoBelts(String promise, BiFunction<MondayFactory, Integer, Object> call) {
+        CHECK.sentence(promise + ": Throws IndexOutOfBoundsException if there is no such belt");
+        MondayFactory x = Check.factory("h m057 m157 m257");
+        for (int belt : Check.NO_BELTS) {
+            CHECK.dueThrow("belt " + belt, NO_INDEX, () -> call.apply(x, belt));
+        }
+        for (int belt = 0; belt <= 2; belt++) {
+            int of = belt;
+            due("belt " + belt + " is there", false, Check.outcome(() -> call.apply(x, of)).endsWith("Exception"));
+        }
+    }
+
+    private static void makeOnNoBelt() {
+        dueNoBelts("2", (x, belt) -> x.make(belt, 5, 7));
+    }
+
+    private static void blankOnNoBelt() {
+        dueNoBelts("3", (x, belt) -> x.blank(belt));
+    }
+
+    private static void tellOfNoBelt() {
+        dueNoBelts("4", (x, belt) -> x.tell(belt, 4, 7));
+    }
+
+    private static void inspectOfNoBelt() {
+        dueNoBelts("5", (x, belt) -> x.inspect(belt));
+    }
+
+    private static void numberOfNoBelt() {
+        dueNoBelts("11", (x, belt) -> x.beltOf(belt, 0));
+    }
+
+    private static void carrierOfNoBelt() {
+        dueNoBelts("12", (x, belt) -> x.carrier(belt, 0, 0));
+    }
+
+    private static void passesOnNoBelt() {
+        dueNoBelts("14", (x, belt) -> x.passes(belt, 0, 1));
+    }
+
+    private static void wouldFailOnNoBelt() {
+        dueNoBelts("15, first way", (x, belt) -> x.wouldFail(belt, 0, false));
+    }
+
+    private static void wouldFailOnNoBeltAgain() {
+        dueNoBelts("15, second way", (x, belt) -> x.wouldFail(belt, 0, true));
+    }
+
+    private static void wouldStampOnNoBelt() {
+        dueNoBelts("16", (x, belt) -> x.wouldStamp(belt));
+    }
+
+    private static void leastGreyOfNoBelt() {
+        dueNoBelts("18", (x, belt) -> x.leastGrey(belt));
+    }
+
+    private static void lineOfNoBelt() {
+        dueNoBelts("26", (x, belt) -> x.line(belt));
+    }
+
+    private static void dueNoPlaces(String promise, String what, BiFunction<MondayFactory, Integer, Object> call) {
+        CHECK.sentence(promise + ": Throws IndexOutOfBoundsException if there is no such " + what);
+        MondayFactory x = Check.factory("h m104 i1 m114 i1 m157 b1");
+        for (int place : new int[] {-1, 2, Integer.MIN_VALUE, Integer.MAX_VALUE}) {
+            CHECK.dueThrow("number " + place, NO_INDEX, () -> call.apply(x, place));
+        }
+        for (int place = 1; place >= 0; place--) {
+            int at = place;
+            due("number " + place + " is there", false, Check.outcome(() -> call.apply(x, at)).endsWith("Exception"));
+        }
+        MondayFactory y = new MondayFactory();
+        CHECK.dueThrow("where nothing is", NO_INDEX, () -> call.apply(y, 0));
+    }
+
+    private static void carrierOfNoPlace() {
+        dueNoPlaces("12", "belt or place", (x, place) -> x.carrier(1, place, 0));
+    }
+
+    private static void passesOfNoPlace() {
+        dueNoPlaces("14", "belt or place", (x, place) -> x.passes(1, place, 1));
+    }
+
+    private static void wouldFailOfNoPlace() {
+        dueNoPlaces("15", "belt or place", (x, place) -> x.wouldFail(1, place, false));
+    }
+
+    private static void wouldFailOfNoPlaceAgain() {
+        dueNoPlaces("15, second way", "belt or place", (x, place) -> x.wouldFail(1, place, true));
+    }
+
+    private static void sellOfNoReject() {
+        dueNoPlaces("8", "reject", (x, reject) -> x.sell(reject));
+    }
+
+    private static void repairOfNoReject() {
+        dueNoPlaces("9", "reject", (x, reject) -> x.repair(reject));
+    }
+
+    private static void numberOfNoReject() {
+        dueNoPlaces("19", "reject", (x, reject) -> x.rejectOf(reject, 0));
+    }
+
+    private static void wouldMendNoReject() {
+        dueNoPlaces("23", "reject", (x, reject) -> x.wouldMend(reject));
+    }
+
+    private static final int[][] OUT_OF_RANGE = {{-1, 7}, {10, 7}, {5, 3}, {5, 10}, {-1, 3}, {10, 10},
+        {Integer.MIN_VALUE, 7}, {Integer.MAX_VALUE, 7}, {5, Integer.MIN_VALUE}, {5, Integer.MAX_VALUE}};
+    private static final int[][] IN_RANGE = {{0, 4}, {0, 9}, {9, 4}, {9, 9}};
+
+    private static void makeOutOfRange() {
+        CHECK.sentence("2: Throws IllegalArgumentException if a number is out of range");
+        MondayFactory x = new MondayFactory();
+        for (int[] numbers : OUT_OF_RANGE) {
+            CHECK.dueThrow(numbers[0] + " and " + numbers[1], WRONG, () -> x.make(1, numbers[0], numbers[1]));
+        }
+        for (int i = 0; i < 4; i++) {
+            due(IN_RANGE[i][0] + " and " + IN_RANGE[i][1], i + 1, x.make(1, IN_RANGE[i][0], IN_RANGE[i][1]));
+        }
+    }
+
+    private static void tellOutOfRange() {
+        CHECK.sentence("4: Throws IllegalArgumentException if a number is out of range");
+        MondayFactory x = new MondayFactory();
+        for (int[] numbers : OUT_OF_RANGE) {
+            CHECK.dueThrow(numbers[0] + " and " + numbers[1], WRONG, () -> x.tell(1, numbers[0], numbers[1]));
+        }
+        int before = 5;
+        for (int[] numbers : IN_RANGE) {
+            due(numbers[0] + " and " + numbers[1], before, x.tell(1, numbers[0], numbers[1]));
+            before = numbers[0];
+        }
+    }
+
+    private static void makeWithoutRoom() {
+        CHECK.sentence("2: Throws UnsupportedOperationException if it is refused for reason 1");
+        MondayFactory x = Check.factory("b0 b0 b0 b0");
+        due("the fifth", 5, x.make(0, 5, 7));
+        CHECK.refused("a sixth", 1, 5, x, () -> x.make(0, 5, 7));
+        due("another belt", 1, x.make(2, 5, 7));
+    }
+
+    private static void blankWithoutRoom() {
+        CHECK.sentence("3: Throws UnsupportedOperationException if it is refused for reason 1");
+        MondayFactory x = Check.factory("m157 m157 m157 m157");
+        due("the fifth", 5, x.blank(1));
+        CHECK.refused("a sixth", 1, 5, x, () -> x.blank(1));
+        due("another belt", 1, x.blank(2));
+    }
+
+    private static void carriersThen() {
         CHECK.sentence("2 and 3: Returns how many carriers the belt has then");
         MondayFactory x = new MondayFactory();
         for (int carriers = 1; carriers <= 5; carriers++) {
@@ -63,14 +193,25 @@ public final class EarlierPromisesTest {
         }
         due("of the belt 0 alone, by make", 1, x.make(0, 5, 7));
         due("of the belt 2 alone, by blank", 1, x.blank(2));
+    }
+
+    private static void make() {
         CHECK.sentence("2: Makes a Monday at the end of a belt");
-        CHECK.line("at the end", "5/7:57 -- 57 -- 57", x, x.line(1));
+        MondayFactory x = Check.factory("m157");
+        CHECK.line("the first", "5/7:57", x, x.line(1));
+        Check.call(x, "b1 m168 m179 m104");
+        CHECK.line("the last", "5/7:57 -- 68 79 04", x, x.line(1));
         due("made", 4, x.account(6));
+    }
+
+    private static void blank() {
         CHECK.sentence("3: Puts a blank at the end of a belt");
-        MondayFactory y = Check.factory("m099 b0");
-        CHECK.line("at the end", "5/7:99 --", y, y.line(0));
-        due("blanks", 1, y.account(1));
-        due("not made", 1, y.account(6));
+        MondayFactory x = Check.factory("b0");
+        CHECK.line("the first", "5/7:--", x, x.line(0));
+        Check.call(x, "m099 b0 b0 b0");
+        CHECK.line("the last", "5/7:-- 99 -- -- --", x, x.line(0));
+        due("blanks", 4, x.account(1));
+        due("not made", 1, x.account(6));
     }
 
     private static void tell() {
@@ -81,13 +222,16 @@ public final class EarlierPromisesTest {
         due("the least", 0, x.tell(0, 4, 7));
         due("the same", 4, x.tell(0, 4, 4));
         due("of the belt told", 5, x.tell(1, 1, 7));
+    }
+
+    private static void tellWhatIsSo() {
         CHECK.sentence("4: Throws UnsupportedOperationException if it is refused for reason 2, if both are so already");
+        MondayFactory x = new MondayFactory();
+        CHECK.refused("both at first", 2, 5, x, () -> x.tell(0, 5, 7));
+        due("the grey alone", 5, x.tell(0, 5, 4));
+        due("the alarm alone", 5, x.tell(0, 4, 4));
         CHECK.refused("both", 2, 4, x, () -> x.tell(0, 4, 4));
-        due("the grey alone", 4, x.tell(0, 4, 5));
-        due("the alarm alone", 4, x.tell(0, 3, 5));
-        CHECK.refused("both at first", 2, 5, x, () -> x.tell(2, 5, 7));
-        CHECK.refused("both by another call", 2, 3, x, () -> x.tell(0, 3, 5));
-        due("what another belt has is none", 5, x.tell(2, 3, 5));
+        due("what another belt has is none", 5, x.tell(2, 4, 4));
     }
 
     private static void inspect() {
@@ -97,31 +241,51 @@ public final class EarlierPromisesTest {
         for (int test : want) {
             due("test " + test, test, x.inspect(0));
         }
+    }
+
+    private static void inspectRefused() {
         CHECK.sentence("5: Throws UnsupportedOperationException if it is refused for reason 3 or 4");
-        CHECK.refused("empty", 3, 0, x, () -> x.inspect(0));
-        Check.call(x, "o0 w w b2");
+        MondayFactory x = Check.factory("w w b2");
         CHECK.refused("empty and nobody", 3, 0, x, () -> x.inspect(0));
         CHECK.refused("nobody for a blank", 4, 2, x, () -> x.inspect(2));
         due("the blank is still there", 1, x.beltOf(2, 1));
+        x.hire();
+        CHECK.refused("empty", 3, 0, x, () -> x.inspect(0));
+        due("neither", 0, x.inspect(2));
     }
 
-    private static void hireAndLeave() {
+    private static void hire() {
         CHECK.sentence("6: Returns the number of the inspector");
         MondayFactory x = new MondayFactory();
         for (int number = 0; number <= 3; number++) {
             due("number", number, x.hire());
         }
+        x.leave(0);
+        due("the last one again", 3, x.hire());
+    }
+
+    private static void hireRefused() {
         CHECK.sentence("6: Throws UnsupportedOperationException if it is refused for reason 1");
+        MondayFactory x = Check.factory("h h h");
+        due("a fourth", 3, x.hire());
         CHECK.refused("a fifth", 1, 4, x, x::hire);
+    }
+
+    private static void leave() {
         CHECK.sentence("7: Returns how often this one has yawned");
-        due("never", 0, x.leave(3));
+        due("never", 0, Check.factory("h h h h m067 i0").leave(3));
         due("9 times", 9, Check.yawner(9).leave(0));
         due("once", 1, Check.factory("h h m067 i0 m087 i0").leave(0));
         due("twice", 2, Check.factory("h h m067 i0 m087 i0").leave(1));
+    }
+
+    private static void leaveOfNobody() {
         CHECK.sentence("7: Throws IndexOutOfBoundsException if there is no such inspector");
+        MondayFactory x = Check.factory("h h h");
         CHECK.dueThrow("behind the last", NO_INDEX, () -> x.leave(3));
         CHECK.dueThrow("before the first", NO_INDEX, () -> x.leave(-1));
         due("the last", 0, x.leave(2));
+        CHECK.dueThrow("the last is gone", NO_INDEX, () -> x.leave(2));
         Check.call(x, "o1 o0");
         CHECK.dueThrow("nobody there", NO_INDEX, () -> x.leave(0));
     }
@@ -130,12 +294,7 @@ public final class EarlierPromisesTest {
         CHECK.sentence("8: Returns the price");
         due("the greatest", 16, Check.factory("h t004 m005 i0").sell(0));
         due("the least", 1, Check.factory("h m097 i0 m097 i0 m004 i0 m004 i0 s1 s1").sell(0));
-        CHECK.sentence("8: Throws IndexOutOfBoundsException if there is no such reject");
-        MondayFactory x = new MondayFactory();
-        CHECK.dueThrow("none", NO_INDEX, () -> x.sell(0));
-        Check.call(x, "h m004 i0");
-        CHECK.dueThrow("behind the last", NO_INDEX, () -> x.sell(1));
-        CHECK.dueThrow("before the first", NO_INDEX, () -> x.sell(-1));
+        MondayFactory x = Check.factory("h m004 i0");
         due("the only one", 12, x.sell(0));
         CHECK.dueThrow("gone", NO_INDEX, () -> x.sell(0));
         due("coins", 17, x.account(4));
@@ -148,8 +307,11 @@ public final class EarlierPromisesTest {
         x.inspect(0);
         due("the second time", 3, x.repair(0));
         due("coins", 0, x.account(4));
+    }
+
+    private static void repairRefused() {
         CHECK.sentence("9: Throws UnsupportedOperationException if it is refused for reason 1, for the belt 0, or 5");
-        Check.call(x, "i0 m014 i0");
+        MondayFactory x = Check.factory("h m004 i0 r0 i0 r0 i0 m014 i0");
         CHECK.refused("no coins", 5, 2, x, () -> x.repair(1));
         Check.call(x, "b0 b0 b0 b0 b0");
         CHECK.refused("no room, either", 1, 5, x, () -> x.repair(1));
@@ -196,7 +358,11 @@ public final class EarlierPromisesTest {
         dueBelt("another belt", "0 0 5 7 -1 0 0", x, 2);
         Check.addRejects(x, 8);
         dueBelt("scrap is inspected, too", "0 0 5 7 2 8 0", x, 0);
+    }
+
+    private static void noNumberOfBelts() {
         CHECK.sentence("11: Throws IllegalArgumentException if what is not from 0 to 6");
+        MondayFactory x = new MondayFactory();
         for (int what : new int[] {-1, 7, Integer.MIN_VALUE, Integer.MAX_VALUE}) {
             CHECK.dueThrow("what " + what, WRONG, () -> x.beltOf(2, what));
         }
@@ -219,17 +385,16 @@ public final class EarlierPromisesTest {
         dueCarrier("a blank", "1 -1 -1 -1", x, 0, 3);
         Check.call(x, "i0 r0");
         dueCarrier("repaired twice", "0 4 4 2", x, 0, 3);
+    }
+
+    private static void noNumberOfCarriers() {
         CHECK.sentence("12: Throws IllegalArgumentException if what is not from 0 to 3");
+        MondayFactory x = Check.factory("m057 b0");
         for (int what : new int[] {-1, 4, Integer.MIN_VALUE, Integer.MAX_VALUE}) {
             CHECK.dueThrow("of a Monday, " + what, WRONG, () -> x.carrier(0, 0, what));
-            CHECK.dueThrow("of a blank, " + what, WRONG, () -> x.carrier(0, 2, what));
+            CHECK.dueThrow("of a blank, " + what, WRONG, () -> x.carrier(0, 1, what));
         }
-        CHECK.sentence("12: Throws IndexOutOfBoundsException if there is no such belt or place");
-        CHECK.dueThrow("behind the last", NO_INDEX, () -> x.carrier(0, 4, 0));
-        CHECK.dueThrow("before the first", NO_INDEX, () -> x.carrier(0, -1, 0));
-        CHECK.dueThrow("of an empty belt", NO_INDEX, () -> x.carrier(1, 0, 0));
-        CHECK.dueThrow("of no belt", NO_INDEX, () -> x.carrier(3, 0, 0));
-        CHECK.dueThrow("of no belt", NO_INDEX, () -> x.carrier(-1, 0, 0));
+        due("the first and the last", "0 0", x.carrier(0, 0, 0) + " " + x.carrier(0, 0, 3));
     }
 
     private static void yawns() {
@@ -237,6 +402,9 @@ public final class EarlierPromisesTest {
         for (int yawns = 0; yawns <= 9; yawns++) {
             due("times", yawns, Check.yawner(yawns).yawns(0));
         }
+    }
+
+    private static void yawnsOfNobody() {
         CHECK.sentence("13: Throws IndexOutOfBoundsException if there is no such inspector");
         MondayFactory x = new MondayFactory();
         CHECK.dueThrow("nobody", NO_INDEX, () -> x.yawns(0));
@@ -252,22 +420,32 @@ public final class EarlierPromisesTest {
         Check.call(x, "m057 i0 m058 m057 m047 m099");
         String[] want = {"true false false", "true true false", "false true true", "true false true"};
         for (int place = 0; place < 4; place++) {
-            due("place " + place, want[place], x.passes(0, place, 1) + " " + x.passes(0, place, 2) + " "
-                + x.passes(0, place, 3));
+            due("place " + place, want[place], passed(x, 0, place));
         }
         x.tell(0, 4, 9);
         due("as the belt is now", "true true", x.passes(0, 2, 1) + " " + x.passes(0, 3, 2));
+    }
+
+    private static String passed(MondayFactory x, int belt, int place) {
+        return x.passes(belt, place, 1) + " " + x.passes(belt, place, 2) + " " + x.passes(belt, place, 3);
+    }
+
+    private static void blankPasses() {
         CHECK.sentence("14: Returns whether it would, true for a blank");
-        x.tell(0, 9, 4);
-        x.blank(0);
-        due("a blank", "true true true", x.passes(0, 4, 1) + " " + x.passes(0, 4, 2) + " " + x.passes(0, 4, 3));
-        MondayFactory y = Check.factory("b1");
-        due("a blank where nothing was inspected", true, y.passes(1, 0, 3));
+        due("where nothing was inspected", "true true true", passed(Check.factory("b1"), 1, 0));
+        due("by the strictest limits", "true true true", passed(Check.factory("h m057 i0 t094 b0"), 0, 0));
+        due("unlike a Monday", "false false false", passed(Check.factory("h m057 i0 t094 b0 m057"), 0, 1));
+        due("behind a Monday", "true true true", passed(Check.factory("h m057 i0 t094 m057 b0"), 0, 1));
+    }
+
+    private static void noSuchTest() {
         CHECK.sentence("14: Throws IllegalArgumentException if there is no such test");
+        MondayFactory x = Check.factory("m057 b0");
         for (int test : new int[] {0, 4, -1, Integer.MIN_VALUE, Integer.MAX_VALUE}) {
             CHECK.dueThrow("of a Monday, " + test, WRONG, () -> x.passes(0, 0, test));
-            CHECK.dueThrow("of a blank, " + test, WRONG, () -> x.passes(0, 4, test));
+            CHECK.dueThrow("of a blank, " + test, WRONG, () -> x.passes(0, 1, test));
         }
+        due("the first and the last", "true true", x.passes(0, 0, 1) + " " + x.passes(0, 0, 3));
     }
 
     private static void wouldFail() {
@@ -278,20 +456,20 @@ public final class EarlierPromisesTest {
             due("first way, place " + place, want[place], x.wouldFail(0, place, false));
             due("second way, place " + place, want[place], x.wouldFail(0, place, true));
         }
+    }
+
+    private static void wouldFailByNobody() {
         CHECK.sentence("15: Throws NoSuchElementException if there is no inspector");
-        x.leave(0);
-        for (int place = 0; place < 5; place++) {
+        MondayFactory x = Check.factory("m057 b0 m048");
+        for (int place = 0; place < 3; place++) {
             int at = place;
             CHECK.dueThrow("first way, place " + place, NONE, () -> x.wouldFail(0, at, false));
             CHECK.dueThrow("second way, place " + place, NONE, () -> x.wouldFail(0, at, true));
         }
-        CHECK.sentence("15: Throws IndexOutOfBoundsException if there is no such belt or place");
-        CHECK.dueThrow("behind the last, and nobody", NO_INDEX, () -> x.wouldFail(0, 5, false));
+        CHECK.dueThrow("no place, and nobody", NO_INDEX, () -> x.wouldFail(0, 3, false));
+        CHECK.dueThrow("no belt, and nobody", NO_INDEX, () -> x.wouldFail(3, 0, true));
         x.hire();
-        CHECK.dueThrow("behind the last", NO_INDEX, () -> x.wouldFail(0, 5, true));
-        CHECK.dueThrow("before the first", NO_INDEX, () -> x.wouldFail(0, -1, false));
-        CHECK.dueThrow("of an empty belt", NO_INDEX, () -> x.wouldFail(2, 0, false));
-        CHECK.dueThrow("of no belt", NO_INDEX, () -> x.wouldFail(3, 0, true));
+        due("by one", "0 0", x.wouldFail(0, 0, false) + " " + x.wouldFail(0, 1, true));
     }
 
     private static void wouldStamp() {
@@ -312,12 +490,18 @@ public final class EarlierPromisesTest {
         Check.call(y, "m014 m024 m057 m034");
         due("by a full shelf", 1, y.wouldStamp(0));
         due("which stays as it is", "8 0", y.account(2) + " " + y.account(9));
+    }
+
+    private static void wouldStampByNobody() {
         CHECK.sentence("16: Throws NoSuchElementException if there is no inspector");
-        Check.call(y, "o0");
+        MondayFactory x = Check.factory("m057 b1");
         for (int belt = 0; belt <= 2; belt++) {
             int of = belt;
-            CHECK.dueThrow("nobody for " + belt, NONE, () -> y.wouldStamp(of));
+            CHECK.dueThrow("nobody for " + belt, NONE, () -> x.wouldStamp(of));
         }
+        CHECK.dueThrow("no belt, and nobody", NO_INDEX, () -> x.wouldStamp(3));
+        x.hire();
+        due("by one", "1 0 0", x.wouldStamp(0) + " " + x.wouldStamp(1) + " " + x.wouldStamp(2));
     }
 
     private static void stampsOnTheWay() {
@@ -348,8 +532,14 @@ public final class EarlierPromisesTest {
         due("the lowest of two alike", 0, x.next());
         Check.call(x, "m067 i0 o1");
         due("the only one left", 0, x.next());
+    }
+
+    private static void nobodyIsNext() {
         CHECK.sentence("17: Throws NoSuchElementException if there is none");
-        CHECK.dueThrow("at first", NONE, () -> new MondayFactory().next());
+        MondayFactory x = new MondayFactory();
+        CHECK.dueThrow("at first", NONE, x::next);
+        x.hire();
+        due("one", 0, x.next());
         x.leave(0);
         CHECK.dueThrow("all left", NONE, x::next);
     }
@@ -370,6 +560,9 @@ public final class EarlierPromisesTest {
                 due("not by 1 more", false, x.passes(0, 1, 1));
             }
         }
+    }
+
+    private static void leastGreyWithoutMondays() {
         CHECK.sentence("18: Returns the number, 9 without a Monday");
         MondayFactory x = Check.factory("h m057");
         due("an empty belt beside another", 9, x.leastGrey(1));
@@ -405,10 +598,15 @@ public final class EarlierPromisesTest {
         dueReject("3 coins less 2", "9 4 0 3 1 2", x, 0);
         x.week();
         dueReject("in a new week", "9 4 0 3 3 2", x, 0);
+    }
+
+    private static void noNumberOfRejects() {
         CHECK.sentence("19: Throws IllegalArgumentException if what is not from 0 to 5");
+        MondayFactory x = Check.factory("h m014 i0");
         for (int what : new int[] {-1, 6, Integer.MIN_VALUE, Integer.MAX_VALUE}) {
             CHECK.dueThrow("what " + what, WRONG, () -> x.rejectOf(0, what));
         }
+        due("the first and the last", "1 2", x.rejectOf(0, 0) + " " + x.rejectOf(0, 5));
     }
 
     private static void best() {
@@ -427,9 +625,15 @@ public final class EarlierPromisesTest {
         due("in its new place", 0, x.best());
         due("1 coin and 2", 1, rejectsBehind(4, 7, 6).best());
         due("1 coin and 1 that would else be more", 0, rejectsBehind(5, 7, 6).best());
+    }
+
+    private static void noneIsBest() {
         CHECK.sentence("20: Throws NoSuchElementException if there is none");
-        CHECK.dueThrow("at first", NONE, () -> new MondayFactory().best());
-        Check.call(x, "s0 s0 s0 s0 s0");
+        MondayFactory x = Check.factory("h");
+        CHECK.dueThrow("at first", NONE, x::best);
+        Check.call(x, "m014 i0");
+        due("one", 0, x.best());
+        x.sell(0);
         CHECK.dueThrow("all sold", NONE, x::best);
     }
 
@@ -528,10 +732,5 @@ public final class EarlierPromisesTest {
             due("9 behind " + last, last != 9, x.wouldMend(0));
             due("7 behind " + last, last != 7, x.wouldMend(1));
         }
-        CHECK.sentence("23: Throws IndexOutOfBoundsException if there is no such reject");
-        CHECK.dueThrow("none", NO_INDEX, () -> new MondayFactory().wouldMend(0));
-        MondayFactory x = Check.factory("h m014 i0");
-        CHECK.dueThrow("behind the last", NO_INDEX, () -> x.wouldMend(1));
-        CHECK.dueThrow("before the first", NO_INDEX, () -> x.wouldMend(-1));
     }
 }

@@ -3,16 +3,7 @@ public final class FridayTermsTest {
     private static final Check CHECK = new Check("FridayTermsTest");
 
     public static void main(String[] args) {
-        byItsGrey();
-        byItsAlarm();
-        lessTheFridays();
-        oneCoinAtLeast();
-        leavesTheShelf();
-        inTheirOrder();
-        coinsForRepairs();
-        toTheBeltZero();
-        greyOfRepaired();
-        alarmOfRepaired();
+        CHECK.eachSentence(FridayTermsTest.class);
         CHECK.end();
     }
 

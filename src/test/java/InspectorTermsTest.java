@@ -3,21 +3,7 @@ public final class InspectorTermsTest {
     private static final Check CHECK = new Check("InspectorTermsTest");
 
     public static void main(String[] args) {
-        atMostFour();
-        numbersBecomeLess();
-        yawnsAtFirst();
-        lastGreyLeftOut();
-        alarmLeftOut();
-        leastYawned();
-        leavesTheBelt();
-        inTheirOrder();
-        lastGreyThen();
-        stampedThen();
-        atTheEndOfTheShelf();
-        atMostEightRejects();
-        yawnsByGrey();
-        nineTimesInAll();
-        blanks();
+        CHECK.eachSentence(InspectorTermsTest.class);
         CHECK.end();
     }
 

@@ -9,29 +9,7 @@ public final class LaterPromisesTest {
     private static final Class<IllegalStateException> BAD_STATE = IllegalStateException.class;
 
     public static void main(String[] args) {
-        fresh();
-        greyest();
-        lines();
-        character();
-        append();
-        runNumbers();
-        runEmpties();
-        runThrows();
-        errorPosition();
-        refusal();
-        refusalStays();
-        accountRange();
-        accountsOfCarriers();
-        accountsOfMondays();
-        accountsOfCalls();
-        isWell();
-        meanGrey();
-        stampShare();
-        undo();
-        save();
-        restore();
-        restoreOfAll();
-        lastCalls();
+        CHECK.eachSentence(LaterPromisesTest.class);
         CHECK.end();
     }
 
@@ -60,19 +38,22 @@ public final class LaterPromisesTest {
         due("4, 3, 2 and 1 times", "3210", freshOnes(y));
         y.leave(2);
         due("4, 3 and 1 times", "210", freshOnes(y));
+    }
+
+    private static void freshOfNoPlace() {
         CHECK.sentence("24: Throws NoSuchElementException if there is no such place");
-        MondayFactory z = new MondayFactory();
+        MondayFactory x = new MondayFactory();
         for (int count = 0; count <= 4; count++) {
             int end = count;
-            CHECK.dueThrow("behind " + count, NONE, () -> z.fresh(end));
+            CHECK.dueThrow("behind " + count, NONE, () -> x.fresh(end));
             for (int place : Check.FAR) {
-                CHECK.dueThrow("place " + place, NONE, () -> z.fresh(place));
+                CHECK.dueThrow("place " + place, NONE, () -> x.fresh(place));
             }
             if (count > 0) {
-                due("the last of " + count, count - 1, z.fresh(count - 1));
+                due("the last of " + count, count - 1, x.fresh(count - 1));
             }
             if (count < 4) {
-                z.hire();
+                x.hire();
             }
         }
     }
@@ -95,29 +76,38 @@ public final class LaterPromisesTest {
         dueGreyest("201", "m057 m257 b2 b1 b1 b1 b1 b1");
         dueGreyest("210", "m297 m297 m297 m297 m297 m197 m197 m197 m197 m187 m097 m097 m097 m097 m077");
         dueGreyest("012", "m097 m197 m297");
+    }
+
+    private static void greyestOfNoPlace() {
         CHECK.sentence("25: Throws NoSuchElementException if there is no such place");
         MondayFactory x = new MondayFactory();
-        due("the last", 2, x.greyest(2));
+        due("the first and the last", "0 2", x.greyest(0) + " " + x.greyest(2));
         for (int place : Check.NO_BELTS) {
             CHECK.dueThrow("place " + place, NONE, () -> x.greyest(place));
         }
     }
 
-    private static void lines() {
+    private static void line() {
         CHECK.sentence("26: Writes the line of a belt, in place of the line before. Returns its length");
         MondayFactory x = Check.factory("h m014 i0 m024 i0 b1 b1 b1 b1 b1");
         due("the longest", 18, x.line(1));
         CHECK.line("a shorter one in its place", "5/7:", x, x.line(0));
         CHECK.line("the longest again", "5/7:-- -- -- -- --", x, x.line(1));
         CHECK.dueThrow("no belt", NO_INDEX, () -> x.line(3));
-        CHECK.dueThrow("no belt", NO_INDEX, () -> x.line(-1));
         due("the line before stays then", "-", "" + x.character(17));
+        x.shelfLine();
+        CHECK.line("in place of the shelf's", "5/7:", x, x.line(2));
+    }
+
+    private static void shelfLine() {
         CHECK.sentence("27: Writes the line of the shelf, in place of the line before. Returns its length");
+        MondayFactory x = Check.factory("h m014 i0 m024 i0 b1 b1 b1 b1 b1");
+        x.line(1);
         CHECK.line("in place of a longer one", "14!1 24!1", x, x.shelfLine());
-        Check.call(x, "s0");
+        x.sell(0);
         due("written before the sale", "2", "" + x.character(5));
         CHECK.line("one", "24!1", x, x.shelfLine());
-        Check.call(x, "s0");
+        x.sell(0);
         CHECK.line("none", "", x, x.shelfLine());
         Check.addRejects(x, 8);
         due("eight", 39, x.shelfLine());
@@ -133,30 +123,41 @@ public final class LaterPromisesTest {
         }
         x.line(0);
         due("the first and the last", "54", "" + x.character(0) + x.character(5));
+    }
+
+    private static void noCharacter() {
         CHECK.sentence("28: Throws IndexOutOfBoundsException if there is no such index");
+        MondayFactory x = Check.factory("m094");
+        x.line(0);
         for (int index : new int[] {-1, 6, 7, Integer.MIN_VALUE, Integer.MAX_VALUE}) {
             CHECK.dueThrow("index " + index, NO_INDEX, () -> x.character(index));
         }
+        due("the first and the last", "54", "" + x.character(0) + x.character(5));
         x.shelfLine();
         CHECK.dueThrow("of an empty line", NO_INDEX, () -> x.character(0));
     }
 
+    private static final char[] SIGNS = {0, 1, 127, 128, 255, 256, 0xd800, 0xffff, ';', 'w'};
+
     private static void append() {
         CHECK.sentence("29: Returns the characters in the input then");
         MondayFactory x = new MondayFactory();
-        char[] signs = {0, 1, 127, 128, 255, 256, 0xd800, 0xffff, ';', 'w'};
         for (int i = 0; i < 60; i++) {
-            due("character " + (i + 1), i + 1, x.append(signs[i % 10]));
+            due("character " + (i + 1), i + 1, x.append(SIGNS[i % 10]));
         }
+        Check.outcome(x::run);
+        due("behind a run", 1, x.append('w'));
+    }
+
+    private static void appendToSixty() {
         CHECK.sentence("29: Throws IllegalStateException if the input contains 60 characters");
-        for (char sign : signs) {
+        MondayFactory x = new MondayFactory();
+        Check.type(x, "w;".repeat(29) + "w");
+        due("the character 60", 60, x.append(';'));
+        for (char sign : SIGNS) {
             CHECK.dueThrow("the character 61, " + (int) sign, BAD_STATE, () -> x.append(sign));
         }
         due("still 60", 60, x.account(13));
-        MondayFactory y = new MondayFactory();
-        Check.type(y, "w;".repeat(29));
-        due("the character 59", 59, y.append('w'));
-        due("run by 59", 30, y.run());
     }
 
     private static void runNumbers() {
@@ -185,7 +186,7 @@ public final class LaterPromisesTest {
         due("room again", 1, x.append('w'));
     }
 
-    private static void runThrows() {
+    private static void runWrong() {
         CHECK.sentence("30: Throws IllegalArgumentException if the text has an error, or the method for an order would"
             + " throw another exception than UnsupportedOperationException; if the text has no error, its position is"
             + " -1");
@@ -199,8 +200,12 @@ public final class LaterPromisesTest {
             CHECK.dueThrow(order + "!", WRONG, () -> Check.run(x, order + "!"));
             due("an error behind " + order, order.length(), x.errorPosition());
         }
+    }
+
+    private static void runRefused() {
         CHECK.sentence("30: Throws UnsupportedOperationException if it is refused for a reason of the method for an"
             + " order; the reason is kept for refusal");
+        MondayFactory x = new MondayFactory();
         CHECK.refused("reason 1, carriers", 1, 5, x, () -> Check.run(x, "b0;b0;b0;b0;b0;b0"));
         CHECK.refused("reason 1, inspectors", 1, 4, x, () -> Check.run(x, "h;h;h;h;h"));
         CHECK.refused("reason 2", 2, 9, x, () -> Check.run(x, "t097;t097"));
@@ -253,6 +258,9 @@ public final class LaterPromisesTest {
         Check.call(x, "b0 b0 b0");
         CHECK.refused("repair again", 1, 5, x, () -> x.repair(0));
         CHECK.refused("run", 2, 0, x, () -> Check.run(x, "t004;t004"));
+    }
+
+    private static void nothingRefused() {
         CHECK.sentence("32: Throws NoSuchElementException if nothing was refused");
         MondayFactory y = Check.factory("h b0");
         Check.outcome(() -> y.make(3, 0, 0));
@@ -290,7 +298,11 @@ public final class LaterPromisesTest {
         for (int what : new int[] {-1, 15, 16, Integer.MIN_VALUE, Integer.MAX_VALUE}) {
             CHECK.dueThrow("what " + what, WRONG, () -> x.account(what));
         }
+    }
+
+    private static void accountsAtFirst() {
         CHECK.sentence("33: Returns the account, at first 0, but for the coins");
+        MondayFactory x = new MondayFactory();
         for (int what = 0; what <= 14; what++) {
             due("account " + what, what == 4 ? 5 : 0, x.account(what));
         }
@@ -309,24 +321,33 @@ public final class LaterPromisesTest {
         due("a week on", "14 6", x.account(0) + " " + x.account(1));
         x.week();
         due("two weeks on", "13 6", x.account(0) + " " + x.account(1));
+    }
+
+    private static void accountsOfRejects() {
         CHECK.sentence("33: 2 for the rejects, 3 for the inspectors");
-        MondayFactory y = new MondayFactory();
+        MondayFactory x = new MondayFactory();
         for (int i = 1; i <= 4; i++) {
-            y.hire();
-            due("inspectors", i, y.account(3));
+            x.hire();
+            due("inspectors", i, x.account(3));
         }
         for (int i = 1; i <= 9; i++) {
-            Check.addRejects(y, 1);
-            due("rejects", Math.min(8, i), y.account(2));
+            Check.addRejects(x, 1);
+            due("rejects", Math.min(8, i), x.account(2));
         }
-        Check.call(y, "o0 s7 r0");
-        due("one less, two less", "3 6", y.account(3) + " " + y.account(2));
+        Check.call(x, "o0 s7 r0");
+        due("one less, two less", "3 6", x.account(3) + " " + x.account(2));
+    }
+
+    private static void accountsOfCoins() {
         CHECK.sentence("33: 4 for the coins, 5 for the week");
-        due("coins", 5 + 11 - 2, y.account(4));
-        Check.call(y, "w w");
-        due("week", 2, y.account(5));
-        MondayFactory z = Check.factory("h m004 i0 r0 i0 r0");
-        due("no coins", 0, z.account(4));
+        MondayFactory x = Check.factory("h m004 i0");
+        due("at first", "5 0", accounts(x, 4, 5));
+        Check.call(x, "r0 i0 r0");
+        due("no coins", "0 0", accounts(x, 4, 5));
+        Check.call(x, "i0 s0 w");
+        due("coins, and a week", "8 1", accounts(x, 4, 5));
+        Check.call(x, "w w");
+        due("three weeks", "8 3", accounts(x, 4, 5));
     }
 
     private static String accounts(MondayFactory x, int... whats) {
@@ -358,9 +379,16 @@ public final class LaterPromisesTest {
         due("a blank is no scrap", "11 1 10 2", accounts(x, 6, 7, 8, 9));
         Check.call(x, "s0");
         due("a Friday is none of them", "11 1 10 2", accounts(x, 6, 7, 8, 9));
+    }
+
+    private static void accountsOfFridays() {
         CHECK.sentence("33: 10 for the Fridays so far, 11 for those of this week, 12 for the repairs so far");
-        due("one", "1 1 1", accounts(x, 10, 11, 12));
-        Check.call(x, "s0 w");
+        MondayFactory x = Check.factory("h");
+        Check.addRejects(x, 8);
+        due("none", "0 0 0", accounts(x, 10, 11, 12));
+        Check.call(x, "s0 s0 r0");
+        due("two and one", "2 2 1", accounts(x, 10, 11, 12));
+        Check.call(x, "w");
         due("in a new week", "2 0 1", accounts(x, 10, 11, 12));
         Check.call(x, "s0 r0 r0");
         due("of it", "3 1 3", accounts(x, 10, 11, 12));
@@ -428,6 +456,9 @@ public final class LaterPromisesTest {
         due("no blanks", 7.0, Check.factory("m077 b0 b1 b2").meanGrey());
         due("fifteen", 67.0 / 15.0,
             Check.factory("m097 m087 m077 m067 m057 m147 m137 m127 m117 m107 m297 m287 m217 m217 m237").meanGrey());
+    }
+
+    private static void noMeanGrey() {
         CHECK.sentence("35: Throws ArithmeticException if there are none");
         MondayFactory x = new MondayFactory();
         CHECK.dueThrow("nothing there", ArithmeticException.class, x::meanGrey);
@@ -451,6 +482,9 @@ public final class LaterPromisesTest {
         due("scrap counts", 1.0f / 10.0f, x.stampShare());
         due("it was scrap", 1, x.account(9));
         due("all", 1.0f, Check.factory("h m057 i0 m067 i0").stampShare());
+    }
+
+    private static void noStampShare() {
         CHECK.sentence("36: Throws ArithmeticException if none was");
         MondayFactory y = new MondayFactory();
         CHECK.dueThrow("at first", ArithmeticException.class, y::stampShare);
@@ -469,20 +503,30 @@ public final class LaterPromisesTest {
             due("left", left, x.undo());
         }
         due("of one", 0, Check.factory("w").undo());
+    }
+
+    private static void noUndo() {
         CHECK.sentence("37: Throws IllegalStateException if no change can be undone");
-        CHECK.dueThrow("behind all", BAD_STATE, x::undo);
         CHECK.dueThrow("at first", BAD_STATE, () -> new MondayFactory().undo());
-        due("the ninth stays", 1, x.account(5));
+        MondayFactory x = Check.factory("w w w w w w w w w");
+        for (int i = 0; i < 8; i++) {
+            x.undo();
+        }
+        CHECK.dueThrow("behind all", BAD_STATE, x::undo);
+        due("the first of nine stays", 1, x.account(5));
+    }
+
+    private static void undoOfTheLatest() {
         CHECK.sentence("37: Undoes the latest change");
-        MondayFactory y = Check.factory("h m014 i0");
-        Check.run(y, "s0;w;w;h;b0");
-        Check.outcome(() -> y.sell(0));
-        y.undo();
-        due("a text as a whole, not a call that threw", "0 1 1 5 0 0", accounts(y, 0, 2, 3, 4, 5, 10));
-        y.undo();
-        due("an inspection", "1 0 1 5 0 0", accounts(y, 0, 2, 3, 4, 5, 10));
-        due("with its yawns, its last grey and its number", "0 -1 0", y.yawns(0) + " " + y.beltOf(0, 4) + " "
-            + y.beltOf(0, 5));
+        MondayFactory x = Check.factory("h m014 i0");
+        Check.run(x, "s0;w;w;h;b0");
+        Check.outcome(() -> x.sell(0));
+        x.undo();
+        due("a text as a whole, not a call that threw", "0 1 1 5 0 0", accounts(x, 0, 2, 3, 4, 5, 10));
+        x.undo();
+        due("an inspection", "1 0 1 5 0 0", accounts(x, 0, 2, 3, 4, 5, 10));
+        due("with its yawns, its last grey and its number", "0 -1 0", x.yawns(0) + " " + x.beltOf(0, 4) + " "
+            + x.beltOf(0, 5));
     }
 
     private static void save() {
@@ -515,6 +559,9 @@ public final class LaterPromisesTest {
         Check.call(x, "b0 b1 b2");
         x.undo();
         due("behind undo", 0, x.restore());
+    }
+
+    private static void noRestore() {
         CHECK.sentence("39: Throws IllegalStateException if there is no snapshot");
         MondayFactory y = Check.factory("w");
         CHECK.dueThrow("no save", BAD_STATE, y::restore);

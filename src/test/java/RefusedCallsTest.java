@@ -15,6 +15,9 @@ public final class RefusedCallsTest {
     private static final Class<IllegalStateException> BAD_STATE = IllegalStateException.class;
     private static final Class<ArithmeticException> NO_SHARE = ArithmeticException.class;
 
+    private static final String LEFT = "A method that throws an exception leaves the state unchanged";
+    private static final String EMPTIED = "run: the input, which is empty afterwards, also if an exception is thrown";
+
     /** What Check.apart tells, in its order. */
     private static final int INPUT = 0;
     private static final int POSITION = 1;
@@ -23,21 +26,7 @@ public final class RefusedCallsTest {
     private static final int LINE = 4;
 
     public static void main(String[] args) {
-        CHECK.sentence("A method that throws an exception leaves the state unchanged");
-        wrongBelts();
-        wrongNumbers();
-        wrongPlaces();
-        refusedByRoom();
-        refusedOtherwise();
-        nobodyThere();
-        nothingThere();
-        CHECK.sentence("run: Carries out the text in the input, which is empty afterwards, also if an exception is"
-            + " thrown");
-        textsWithErrors();
-        textsWithWrongNumbers();
-        textsRefused();
-        CHECK.sentence("A method that tells leaves the state unchanged, too");
-        calm();
+        CHECK.eachSentence(RefusedCallsTest.class);
         CHECK.end();
     }
 
@@ -130,6 +119,7 @@ public final class RefusedCallsTest {
     }
 
     private static void wrongBelts() {
+        CHECK.sentence(LEFT + ", by a wrong belt");
         for (int belt : Check.NO_BELTS) {
             leaves("make on " + belt, NO_INDEX, x -> x.make(belt, 5, 7));
             leaves("blank on " + belt, NO_INDEX, x -> x.blank(belt));
@@ -148,6 +138,7 @@ public final class RefusedCallsTest {
     }
 
     private static void wrongNumbers() {
+        CHECK.sentence(LEFT + ", by a wrong number");
         for (int grey : new int[] {-1, 10}) {
             leaves("make of grey " + grey, WRONG, x -> x.make(0, grey, 7));
             leaves("tell of grey " + grey, WRONG, x -> x.tell(0, grey, 7));
@@ -172,6 +163,7 @@ public final class RefusedCallsTest {
     }
 
     private static void wrongPlaces() {
+        CHECK.sentence(LEFT + ", by a wrong place, inspector, reject or index");
         for (int at : new int[] {-1, 8, Integer.MIN_VALUE, Integer.MAX_VALUE}) {
             leaves("leave " + at, NO_INDEX, x -> x.leave(at));
             leaves("sell " + at, NO_INDEX, x -> x.sell(at));
@@ -192,6 +184,7 @@ public final class RefusedCallsTest {
     }
 
     private static void refusedByRoom() {
+        CHECK.sentence(LEFT + ", without room");
         leaves("make on a full belt", REFUSED, rich("b0 b0 b0 b0"), x -> x.make(0, 5, 7));
         leaves("blank on a full belt", REFUSED, rich("b0 b0 b0 b0"), x -> x.blank(0));
         leaves("repair to a full belt", REFUSED, rich("b0 b0 b0 b0"), x -> x.repair(0));
@@ -204,6 +197,7 @@ public final class RefusedCallsTest {
     }
 
     private static void refusedOtherwise() {
+        CHECK.sentence(LEFT + ", for other reasons");
         leaves("tell what is so", REFUSED, x -> x.tell(1, 5, 7));
         leaves("inspect an empty belt", REFUSED, rich("i0"), x -> x.inspect(0));
         leaves("repair without coins", REFUSED, rich("r0 r0 t095 i0 i0 i0"), x -> x.repair(1));
@@ -217,6 +211,7 @@ public final class RefusedCallsTest {
     }
 
     private static void nobodyThere() {
+        CHECK.sentence(LEFT + ", without inspectors");
         leaves("inspect", REFUSED, rich("o0 o0"), x -> x.inspect(1));
         leaves("wouldFail", NONE, rich("o0 o0"), x -> x.wouldFail(1, 0, false));
         leaves("wouldFail again", NONE, rich("o0 o0"), x -> x.wouldFail(1, 0, true));
@@ -228,6 +223,7 @@ public final class RefusedCallsTest {
     }
 
     private static void nothingThere() {
+        CHECK.sentence(LEFT + ", where nothing is");
         leaves("best", NONE, rich("s0 s0"), MondayFactory::best);
         leaves("sell", NO_INDEX, rich("s0 s0"), x -> x.sell(0));
         leaves("repair", NO_INDEX, rich("s0 s0"), x -> x.repair(0));
@@ -253,6 +249,7 @@ public final class RefusedCallsTest {
     }
 
     private static void textsWithErrors() {
+        CHECK.sentence(EMPTIED + ", by an error");
         keepsInRun(";", WRONG, 4);
         keepsInRun("w", WRONG, 3);
         keepsInRun(";s0;x", WRONG, 7);
@@ -261,6 +258,7 @@ public final class RefusedCallsTest {
     }
 
     private static void textsWithWrongNumbers() {
+        CHECK.sentence(EMPTIED + ", by a wrong number");
         for (String order : new String[] {"m357", "m053", "b3", "t357", "t053", "i3", "o3", "s2", "r2"}) {
             keepsInRun(";" + order, WRONG, -1);
             keepsInRun(";m299;" + order + ";i9", WRONG, -1);
@@ -268,6 +266,7 @@ public final class RefusedCallsTest {
     }
 
     private static void textsRefused() {
+        CHECK.sentence(EMPTIED + ", by a refusal");
         for (String order : new String[] {"b0;b0;b0;b0;b0;m057", "b0;b0;b0;b0;b0;b0", "t157", "i0;i0", "o0;o0;o0;i1",
             "h;h", "r0;r0;m014;i0;r0;r0", "b0;b0;b0;b0;b0;r0"}) {
             keepsInRun(";" + order, REFUSED, -1);
@@ -276,6 +275,7 @@ public final class RefusedCallsTest {
     }
 
     private static void calm() {
+        CHECK.sentence("A method that tells leaves the state unchanged, too");
         for (int belt = 0; belt <= 2; belt++) {
             int of = belt;
             leaves("wouldStamp " + belt, null, x -> x.wouldStamp(of));

@@ -4,28 +4,14 @@ import java.util.function.Function;
 public final class TextTermsTest {
     private static final Check CHECK = new Check("TextTermsTest");
     private static final String[] FORMS = {"m000", "b0", "t000", "i0", "h", "o0", "s0", "r0", "w"};
+    private static final String SHELF = "h m014 i0 m024 i0 m034 i0 m044 i0 m004 i0 m014 i0 m024 i0 m034 i0";
+
+    /** How the outcome of a text begins that has no error, but a number that is out of range. */
+    private static final String OUT = "IllegalArgumentException -1 ";
     private static final Class<IllegalArgumentException> WRONG = IllegalArgumentException.class;
 
     public static void main(String[] args) {
-        atMostSixty();
-        ordersAndSemicolons();
-        ordersOfBelts();
-        ordersOfInspectors();
-        ordersOfRejects();
-        weeks();
-        oneDigit();
-        firstWrongCharacter();
-        lettersOfOrders();
-        endsTooEarly();
-        oneAfterTheOther();
-        nothingOfIt();
-        firstDecides();
-        firstReason();
-        fullReason();
-        soAlreadyReason();
-        emptyReason();
-        nobodyReason();
-        coinsReason();
+        CHECK.eachSentence(TextTermsTest.class);
         CHECK.end();
     }
 
@@ -102,19 +88,24 @@ public final class TextTermsTest {
         return outcome + " " + x.errorPosition() + " " + asked.apply(x);
     }
 
-    private static void ordersOfBelts() {
-        String wrong = "IllegalArgumentException -1 ";
+    private static void makes() {
         CHECK.sentence("\"m\", a belt, a grey and an alarm make a Monday");
         due("the least", "1 -1 5/7:04", ran("h", "m004", x -> read(x, 0)));
         due("the greatest", "1 -1 5/7:99", ran("h", "m299", x -> read(x, 2)));
         for (String order : new String[] {"m304", "m903", "m003", "m000", "m293"}) {
-            due(order, wrong + 0, ran("h", order, x -> x.account(6)));
+            due(order, OUT + 0, ran("h", order, x -> x.account(6)));
         }
+    }
+
+    private static void blanks() {
         CHECK.sentence("\"b\" and a belt a blank");
         due("the first", "1 -1 5/7:--", ran("h", "b0", x -> read(x, 0)));
         due("the last", "1 -1 5/7:--", ran("h", "b2", x -> read(x, 2)));
-        due("too great", wrong + 0, ran("h", "b3", x -> x.account(1)));
-        due("far too great", wrong + 0, ran("h", "b9", x -> x.account(1)));
+        due("too great", OUT + 0, ran("h", "b3", x -> x.account(1)));
+        due("far too great", OUT + 0, ran("h", "b9", x -> x.account(1)));
+    }
+
+    private static void tells() {
         CHECK.sentence("\"t\", a belt, a grey and an alarm tell its least grey and its latest alarm");
         due("the least", "1 -1 0/4:", ran("h", "t004", x -> read(x, 0)));
         due("the greatest", "1 -1 9/9:", ran("h", "t299", x -> read(x, 2)));
@@ -122,12 +113,15 @@ public final class TextTermsTest {
             due(order, "1 -1 " + order.charAt(2) + "/" + order.charAt(3) + ":", ran("h", order, x -> read(x, 2)));
         }
         for (String order : new String[] {"t304", "t003", "t000", "t293", "t203"}) {
-            due(order, wrong + "5/7:5/7:5/7:", ran("h", order, x -> read(x, 0) + read(x, 1) + read(x, 2)));
+            due(order, OUT + "5/7:5/7:5/7:", ran("h", order, x -> read(x, 0) + read(x, 1) + read(x, 2)));
         }
+    }
+
+    private static void inspects() {
         CHECK.sentence("\"i\" and a belt inspect");
         due("the first", "1 -1 1", ran("h m057", "i0", x -> x.account(7)));
         due("the last", "1 -1 1", ran("h m257", "i2", x -> x.account(7)));
-        due("too great", wrong + 0, ran("h m257", "i3", x -> x.account(7)));
+        due("too great", OUT + 0, ran("h m257", "i3", x -> x.account(7)));
         due("nothing there", "UnsupportedOperationException -1 0", ran("h m257", "i1", x -> x.account(7)));
     }
 
@@ -140,33 +134,36 @@ public final class TextTermsTest {
         return line.toString();
     }
 
-    private static void ordersOfInspectors() {
-        String wrong = "IllegalArgumentException -1 ";
+    private static void comes() {
         CHECK.sentence("\"h\" lets an inspector come");
         due("the first", "1 -1 1", ran("w", "h", x -> x.account(3)));
         due("the fourth", "1 -1 4", ran("h h h", "h", x -> x.account(3)));
         due("a fifth", "UnsupportedOperationException -1 4", ran("h h h h", "h", x -> x.account(3)));
+    }
+
+    private static void leaves() {
         CHECK.sentence("\"o\" and an inspector lets one leave");
         due("the first", "1 -1 0 0 0", ran("h h h h m067 i0", "o0", Check::yawnsOf));
         due("the last", "1 -1 1 0 0", ran("h h h h m067 i0", "o3", Check::yawnsOf));
-        due("behind the last", wrong + "0 0 0 0", ran("h h h h", "o4", Check::yawnsOf));
-        due("nobody there", wrong + "", ran("w", "o0", Check::yawnsOf));
-        due("far behind", wrong + "0", ran("h", "o9", Check::yawnsOf));
+        due("behind the last", OUT + "0 0 0 0", ran("h h h h", "o4", Check::yawnsOf));
+        due("nobody there", OUT + "", ran("w", "o0", Check::yawnsOf));
+        due("far behind", OUT + "0", ran("h", "o9", Check::yawnsOf));
     }
 
-    private static void ordersOfRejects() {
-        String wrong = "IllegalArgumentException -1 ";
-        String shelf = "h m014 i0 m024 i0 m034 i0 m044 i0 m004 i0 m014 i0 m024 i0 m034 i0";
+    private static void sells() {
         CHECK.sentence("\"s\" and a reject sell it");
-        due("the first", "1 -1 16", ran(shelf, "s0", x -> x.account(4)));
-        due("the last", "1 -1 14", ran(shelf, "s7", x -> x.account(4)));
-        due("behind the last", wrong + 5, ran(shelf, "s8", x -> x.account(4)));
-        due("none there", wrong + 5, ran("h", "s0", x -> x.account(4)));
+        due("the first", "1 -1 16", ran(SHELF, "s0", x -> x.account(4)));
+        due("the last", "1 -1 14", ran(SHELF, "s7", x -> x.account(4)));
+        due("behind the last", OUT + 5, ran(SHELF, "s8", x -> x.account(4)));
+        due("none there", OUT + 5, ran("h", "s0", x -> x.account(4)));
+    }
+
+    private static void repairs() {
         CHECK.sentence("\"r\" and a reject repair it");
-        due("the first", "1 -1 5/7:34", ran(shelf, "r0", x -> read(x, 0)));
-        due("the last", "1 -1 5/7:54", ran(shelf, "r7", x -> read(x, 0)));
-        due("behind the last", wrong + "5/7:", ran(shelf, "r8", x -> read(x, 0)));
-        due("none there", wrong + "5/7:", ran("h", "r0", x -> read(x, 0)));
+        due("the first", "1 -1 5/7:34", ran(SHELF, "r0", x -> read(x, 0)));
+        due("the last", "1 -1 5/7:54", ran(SHELF, "r7", x -> read(x, 0)));
+        due("behind the last", OUT + "5/7:", ran(SHELF, "r8", x -> read(x, 0)));
+        due("none there", OUT + "5/7:", ran("h", "r0", x -> read(x, 0)));
     }
 
     private static void weeks() {

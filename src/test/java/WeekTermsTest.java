@@ -3,14 +3,7 @@ public final class WeekTermsTest {
     private static final Check CHECK = new Check("WeekTermsTest");
 
     public static void main(String[] args) {
-        frontOfTheBeltTwo();
-        beltsMoveOn();
-        frontsOfAllKinds();
-        yawnsByWeeks();
-        noFridaysInTheNewWeek();
-        lineOfABelt();
-        blanksInALine();
-        lineOfTheShelf();
+        CHECK.eachSentence(WeekTermsTest.class);
         CHECK.end();
     }
 
