@@ -175,6 +175,14 @@ final class Check {
         }
     }
 
+    static String freshOnes(MondayFactory x) {
+        StringBuilder all = new StringBuilder();
+        for (int place = 0; place < x.account(3); place++) {
+            all.append(x.fresh(place));
+        }
+        return all.toString();
+    }
+
     static String yawnsOf(MondayFactory x) {
         StringBuilder all = new StringBuilder();
         for (int inspector = 0; inspector < x.account(3); inspector++) {

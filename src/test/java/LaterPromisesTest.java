@@ -17,27 +17,19 @@ public final class LaterPromisesTest {
         CHECK.due(what, want, got);
     }
 
-    private static String freshOnes(MondayFactory x) {
-        StringBuilder all = new StringBuilder();
-        for (int place = 0; place < x.account(3); place++) {
-            all.append(x.fresh(place));
-        }
-        return all.toString();
-    }
-
     private static void fresh() {
         CHECK.sentence("24: Returns an inspector by yawns: the fewest first, of several the lowest");
         MondayFactory x = Check.factory("h h h h");
-        due("all alike", "0123", freshOnes(x));
+        due("all alike", "0123", Check.freshOnes(x));
         String[] want = {"1230", "2301", "3012", "0123", "1230"};
         for (String order : want) {
             Check.call(x, "m067 i0");
-            due("one more has yawned", order, freshOnes(x));
+            due("one more has yawned", order, Check.freshOnes(x));
         }
         MondayFactory y = Check.factory("h m284 i2 m294 i2 h m184 i1 m164 i1 h m084 i0 h m274 i2");
-        due("4, 3, 2 and 1 times", "3210", freshOnes(y));
+        due("4, 3, 2 and 1 times", "3210", Check.freshOnes(y));
         y.leave(2);
-        due("4, 3 and 1 times", "210", freshOnes(y));
+        due("4, 3 and 1 times", "210", Check.freshOnes(y));
     }
 
     private static void freshOfNoPlace() {

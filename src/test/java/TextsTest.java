@@ -24,14 +24,6 @@ public final class TextsTest {
         CHECK.due(what, want, got);
     }
 
-    private static String freshOnes(MondayFactory x) {
-        StringBuilder all = new StringBuilder();
-        for (int place = 0; place < x.account(3); place++) {
-            all.append(x.fresh(place));
-        }
-        return all.toString();
-    }
-
     private static void promise24() {
         MondayFactory x = new MondayFactory();
         CHECK.dueThrow("24: none", NoSuchElementException.class, () -> x.fresh(0));
@@ -40,12 +32,12 @@ public final class TextsTest {
             CHECK.dueThrow("24: no place", NoSuchElementException.class, () -> x.fresh(place));
         }
         CHECK.dueThrow("24: no place", NoSuchElementException.class, () -> x.fresh(4));
-        due("24: all alike", "0123", freshOnes(x));
+        due("24: all alike", "0123", Check.freshOnes(x));
         Check.run(x, "m097;i0;m077;i0;m087;i0");
-        due("24: yawned 2, 1, 2 and 0 times", "3102", freshOnes(x));
+        due("24: yawned 2, 1, 2 and 0 times", "3102", Check.freshOnes(x));
         x.leave(3);
         CHECK.dueThrow("24: no place any more", NoSuchElementException.class, () -> x.fresh(3));
-        due("24: three", "102", freshOnes(x));
+        due("24: three", "102", Check.freshOnes(x));
     }
 
     private static String greyestOnes(MondayFactory x) {
